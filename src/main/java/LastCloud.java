@@ -56,8 +56,8 @@ public final class LastCloud {
     private final Sky[] images = new Sky[IMAGES];
     private final boolean[] kept = new boolean[IMAGES];
     private final Hops hops = new Hops();
-    private final Plan[] plans = new Plan[RULES];
-    private final Plan trial = new Plan();
+    /** One a rule, and behind them one for what is only supposed; each is made when it is first asked. */
+    private final Plan[] plans = new Plan[RULES + 1];
     private final Outcomes outcomes = new Outcomes();
     private final Flight latest = new Flight();
     private final Flight other = new Flight();
@@ -69,9 +69,6 @@ public final class LastCloud {
     public LastCloud() {
         for (int k = 0; k < IMAGES; k++) {
             images[k] = new Sky();
-        }
-        for (int rule = 0; rule < RULES; rule++) {
-            plans[rule] = new Plan();
         }
         Arrays.fill(rowSizes, NONE);
         hops.build(now);
@@ -131,8 +128,10 @@ public final class LastCloud {
 
     /** The plans were worked out from SKY and SIGHTS: another of these makes them stale. */
     private void forgetPlans() {
-        for (int rule = 0; rule < RULES; rule++) {
-            plans[rule].begun = false;
+        for (int i = 0; i < plans.length; i++) {
+            if (plans[i] != null) {
+                plans[i].begun = false;
+            }
         }
     }
 
@@ -296,11 +295,23 @@ public final class LastCloud {
     }
 
     private Plan planOf(int rule) {
+        if (plans[rule] == null) {
+            plans[rule] = new Plan();
+        }
         Plan plan = plans[rule];
         if (!plan.begun) {
             plan.begin(now, hops, rule);
         }
         return plan;
+    }
+
+    /** A plan by the best rule, begun anew, in which something may be supposed. */
+    private Plan trialPlan() {
+        if (plans[RULES] == null) {
+            plans[RULES] = new Plan();
+        }
+        plans[RULES].begin(now, hops, BEST);
+        return plans[RULES];
     }
 
     public int start(int rule) {
@@ -363,10 +374,10 @@ public final class LastCloud {
         }
         int spot = Plan.spot(period, false, place, height);
         for (int up = 0; up <= 2000; up += 250) {
-            trial.begin(now, hops, BEST);
-            trial.setWin(place, now.winsBy(up, false));
-            trial.fill(period, false);
-            if (trial.deedAt(spot, true) == CLIMB) {
+            Plan plan = trialPlan();
+            plan.setDryWin(place, now.winsBy(up, false));
+            plan.fill(period, false);
+            if (plan.deedAt(spot, true) == CLIMB) {
                 return up;
             }
         }
@@ -417,8 +428,7 @@ public final class LastCloud {
     private int startWorthWith(int place, int chance) {
         Plan plan = planOf(BEST);
         if (chance != plan.chances[place]) {
-            plan = trial;
-            plan.begin(now, hops, BEST);
+            plan = trialPlan();
             plan.setChance(place, chance);
         }
         return plan.startWorth(now.startsWet());
@@ -1682,8 +1692,8 @@ public final class LastCloud {
             chances[place] = chance;
         }
 
-        private void setWin(int place, int dry) {
-            winsDry[place] = dry;
+        private void setDryWin(int place, int steps) {
+            winsDry[place] = steps;
         }
 
         private int worthAt(int spot, boolean lift) {
