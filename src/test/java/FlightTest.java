@@ -137,7 +137,8 @@ public final class FlightTest {
         D.due("two", x.flights(0, 5, 2), 1);
         D.due("one's sum", x.sum(0, 5, 1), -40);
         D.due("one's deeds", x.spread(0, 5, 1, 4), 1);
-        D.due("40", x.flights(0, 0, 40) <= 40 ? 1 : 0, 1);
+        D.due("40", x.flights(0, 0, 40), 21);
+        D.due("40 together", x.sum(0, 0, 40), 710);
         D.due("from the greatest seed", x.flights(0, 2000000000, 1), 1);
         // home less the periods, field, out: 1 of each
         x = Skies.under(RuleTest.BY_A_CLOUD + "60 up 400;");
@@ -183,6 +184,13 @@ public final class FlightTest {
         LastCloud longer = Skies.under(RuleTest.CLIMB_FIRST.replace("last 6", "last 7"));
         D.due("a period more, 39 is below 50", judged(longer, 2, 0, 0, 100, 100, 0), 5);
         D.due("91 is not", judged(longer, 4, 0, 0, 100, 100, 0), 4);
+        // each leg takes 2 periods and nothing else; back against the wind it can't be flown
+        LastCloud level = Skies.under("place ground 0;place ground 0;leg 0 1 miles 5 air 100 wind 0;speed 60 sink 100;"
+            + "speed 20 sink 100;leg 1 0 miles 1 air 100 wind 20;last 5;start 0 at 5;");
+        D.due("periods are left for two", judged(level, 0, 100, 100, 100), 2);
+        D.due("one more takes 1", judged(level, 0, 100, 100, 110), 3);
+        D.due("with the wind", judged(level, 0, 100, 111), 2);
+        D.due("against it", judged(level, 0, 111), 0);
         for (long none : new long[] {2, 99, 101, 106, 110, 200, -2, 1L << 32, (1L << 32) + 100, Long.MIN_VALUE,
             Long.MAX_VALUE, 10000}) {
             D.due("no deed " + none, judged(x, 0, 0, none, 100), 1);

@@ -69,6 +69,10 @@ public final class LegTest {
         leg(x, 2, false, 2, false, 7, 699);   // 5 * 7 * 1998 / 100 = 699.3
         // no water is told: as without
         leg(x, 0, true, 1, true, 721, 5 * 721 * (103 - 999) / 100);
+        // 50 in the hundred of 21 is 10.5: 31
+        x = Skies.under("water 50;place ground 0;place ground 0;speed 21 sink 100;leg 0 1 miles 60 air 0 wind 0;");
+        leg(x, 0, true, 0, true, 24, 120);
+        leg(x, 0, true, 0, false, 35, 175);
         // 21 and 7 in the hundred of it is 22.47
         x = Skies.under("water 7;place ground 0;place ground 0;speed 21 sink 100;leg 0 1 miles 60 air 0 wind 22 down;");
         leg(x, 0, false, 0, false, -1, NOTHING);
@@ -190,6 +194,9 @@ public final class LegTest {
         D.due("below the ground one is not", x.reach(0, 1, 0, false), -1);
         D.due("above the ceiling", x.reach(0, 36, 1, false), -2);
         D.due("below 0", x.reach(0, -1, 1, false), -2);
+        D.due("at 0, below the ground", x.reach(0, 0, 0, false), -1);
+        D.due("at 0", Skies.under("place ground 0;").reach(0, 0, 0, false), 0);
+        D.due("at 0", Skies.under("place ground 0 home;").fields(0, 0, true), 1);
         D.due("no place", x.reach(3, 20, 1, false), -2);
         D.due("no place", x.reach(0, 20, 3, false), -2);
         D.due("no place", x.reach(-1, 20, -1, false), -2);
@@ -247,6 +254,10 @@ public final class LegTest {
         D.due("edge(0)", x.edge(0, false), 30);
         D.due("none", Skies.under("place ground 0;").edge(0, false), -1);
         D.due("edge(1): 45 is above the ceiling", x.edge(1, false), -1);
+        String one = "place ground 0;place ground 0 home;leg 0 1 miles 10 air 0 wind 0;speed 40 sink 200;";
+        D.due("40 lost, from the ceiling", Skies.under(one).edge(0, false), 40);
+        D.due("that is too low", Skies.under(one + "ceiling 39;").edge(0, false), -1);
+        D.due("from the ceiling", Skies.under(one).reach(0, 40, 1, false), 0);
         D.due("tour(0, 30)", x.tour(0, 30, false), 13);
         D.due("tour(0, 29)", x.tour(0, 29, false), 0);
         D.due("fields", x.fields(0, 30, false), 8);

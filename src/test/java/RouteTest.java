@@ -13,6 +13,7 @@ public final class RouteTest {
         pointsAtTheEnds();
         cannot();
         firstOfSeveral();
+        fromTheCeiling();
         wet();
         noStart();
         D.finish();
@@ -118,6 +119,18 @@ public final class RouteTest {
             + "leg 0 2 miles 5 air 0 wind 0 hill 10;leg 2 3 miles 5 air 60 wind 0;");
         D.due("soon()", x.soon(), 5);
         way(x, 0, 2, 3);
+    }
+
+    private static void fromTheCeiling() {
+        LastCloud x = Skies.under("place ground 0;place ground 0 home;leg 0 1 miles 10 air 0 wind 0;speed 40 sink 200;"
+            + "start 0 at 40;lift 0 chance 0 up 20;");
+        D.due("40 lost in 4", x.soon(), 4);
+        x = Skies.under("place ground 0;place ground 0 home;leg 0 1 miles 10 air 0 wind 0;speed 40 sink 200;"
+            + "start 0 at 39;lift 0 chance 0 up 20;");
+        D.due("a climb and 4", x.soon(), 5);
+        x = Skies.under("place ground 0;place ground 1 home;leg 0 1 miles 10 air 0 wind 0;speed 40 sink 200;"
+            + "start 0 at 39;lift 0 chance 0 up 2000;");
+        D.due("above the ceiling is at the ceiling", x.soon(), -1);
     }
 
     private static void wet() {

@@ -73,6 +73,9 @@ public final class RuleTest {
         x.sight(0, 0);
         D.due("it is there", x.ends(0, false), 70);
         D.due("start(0)", x.start(0), 70);
+        D.due("by 99 it may not be", Skies.under(CLIMB_FIRST.replace("chance 50", "chance 99")).ends(0, false), -40);
+        D.due("by 1 it may be", Skies.under(CLIMB_FIRST.replace("chance 50", "chance 1")).ends(0, true), 70);
+        D.due("by 0 not", Skies.under(CLIMB_FIRST.replace("chance 50", "chance 0")).ends(0, true), -40);
         x.sight(0, 1);
         D.due("it is not there", x.ends(0, true), -40);
         D.due("start(0)", x.start(0), -40);
@@ -174,6 +177,11 @@ public final class RuleTest {
         D.due("of the place it leads to", Skies.under(two + "turn 300;lift 0 chance 0 up 100;").deed(3, 0, 20, 0, false, false),
             101);
         D.due("by the slow one it loses 6", Skies.under(two + "lift 1 chance 0 up 1;").deed(3, 0, 6, 0, false, false), 100);
+        // by 1 20 is faster (10 and 9.4), by 2 150 is (13.3 and 17.6)
+        String far = "place ground 0;place ground 0 home;leg 0 1 miles 1 air 0 wind 0;speed 20 sink 1;speed 150 sink 15;"
+            + "worth home 100 period 10 out 0;lift 1 chance 0 up ";
+        D.due("by 1", Skies.under(far + "0;").deed(3, 0, 20, 0, false, false), 100);
+        D.due("by 2", Skies.under(far + "2;").deed(3, 0, 20, 0, false, false), 101);
         D.due("the fast one loses 10", Skies.under(two).deed(3, 0, 9, 0, false, false), -1);
     }
 
@@ -205,6 +213,15 @@ public final class RuleTest {
         D.due("the same from a dry start", Skies.under(WET + "start 0 at 8;").water(), 30);
         D.due("a dry start", Skies.under(WET + "start 0 at 8;").start(0), 60);
         D.due("no water", Skies.under(CLIMB_FIRST).water(), 0);
+        // with 1 in the hundred 60 stay 60
+        String one = "water 1;turn 20;place ground 0;place ground 0 home;leg 0 1 miles 5 air 0 wind 0;"
+            + "lift 0 chance 100 up 120;speed 60 sink 100;worth home 100 period 10 out 0;start 0 at 8 wet;";
+        // 5 times 99 is 4 steps, 5 times 100 is 5
+        D.due("a little water", Skies.under(one).climb(0, true), 4);
+        // from 5 one climb is enough without it
+        state(Skies.under(one), 0, 0, 5, 0, true, true, 70, 1, 10000);
+        D.due("it is let go", Skies.under(one.replace("at 8", "at 5")).drop(), 0);
+        D.due("from 8 one climb is enough with it too", Skies.under(one).water(), 0);
         D.due("no start", Skies.under(WET).water(), NOTHING);
         x = Skies.under(CLIMB_FIRST.replace("at 5", "at 5 wet"));
         D.due("a wet start without water is dry", x.start(0), 15);
@@ -281,6 +298,10 @@ public final class RuleTest {
         x.sight(1, 0);
         D.due("by the climbing one", x.last(0, 19), 35);
         D.due("below the ground", Skies.under("place ground 7 home;").last(0, 6), -2);
+        x = Skies.under(CLIMB_FIRST.replace("last 6", "last 2"));
+        D.due("the first period", x.last(0, 20), 0);
+        x = Skies.under(CLIMB_FIRST.replace("last 6", "last 1"));
+        D.due("none", x.last(0, 20), -1);
     }
 
     private static void weakLifts() {
@@ -301,6 +322,12 @@ public final class RuleTest {
         D.due("the lift is as it was", x.climb(0, false), 20);
         x = Skies.under(CLIMB_FIRST.replace("at 5;", "at 5;turn 999;"));
         D.due("2,000 wins 50", x.weak(0, 0, 3), 1500);
+        // from 0 at the third period 50 are to be won: 2,000 less 999 is 1,001
+        x = Skies.under("ceiling 60;turn 999;place ground 0;place ground 0 home;leg 0 1 miles 5 air 0 wind 0;"
+            + "lift 0 chance 0 up 0;speed 60 sink 500;last 3;");
+        D.due("2,000 alone", x.weak(0, 0, 0), 2000);
+        D.due("from higher up", x.weak(0, 20, 0), 1750);
+        x = Skies.under(CLIMB_FIRST.replace("at 5;", "at 5;turn 999;"));
         D.due("the lift's own wins 0", x.worth(0, 0, 0, 3, true, false), -40);
         D.due("below the ground", Skies.under("place ground 7;lift 0 chance 9 up 9;").weak(0, 6, 0), -2);
     }
@@ -312,6 +339,10 @@ public final class RuleTest {
         D.due("known(1)", x.known(1), 50);
         // seen by 7400: chance 97, 964; not: chance 30, 160: 754.9 less 760
         D.due("hawk(1)", x.hawk(1), -6);
+        // now 30 of 100, 70 of 60: 7200 see it: 30 of 100 by 72 is 41, 292; not: 0, the field's 50: 224.2 less 160
+        LastCloud y = Skies.under(BY_A_CLOUD + "30 up 400 sign 100 60;");
+        D.due("start", y.start(0), 160);
+        D.due("hawk(1)", y.hawk(1), 64);
         D.due("a place without a lift", x.share(0), 0);
         D.due("a place without a lift", x.known(0), 0);
         D.due("a place without a lift", x.hawk(2), 0);

@@ -73,6 +73,11 @@ public final class StateTest {
         D.due("no start", x.start(0), -2000000000);
         D.due("back(0)", x.back(0), 0);
         D.due("start", x.start(0), 964);
+        Skies.tell(x, "place ground 3;place ground 4;leg 1 0 miles 9 air 9 wind 9 hill 9;speed 99 sink 99;");
+        x.back(0);
+        D.due("its first leg", x.periods(0, false, 0, false), 2);
+        D.due("its first speed", x.loss(0, false, 0, false), 10);
+        D.due("its grounds", x.reach(0, 10, 1, false), 0);
         Skies.tell(x, "cloud");
         x.back(2);
         D.due("the fault stays", x.fault(0), 1);

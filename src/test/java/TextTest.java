@@ -10,6 +10,7 @@ public final class TextTest {
         defaults();
         noTokens();
         numbers();
+        fullTapes();
         toldPlaces();
         toldAlready();
         tooMany();
@@ -164,6 +165,9 @@ public final class TextTest {
         fault("turN 5;", 1, 0);
         fault("turns 5;", 1, 0);
         fault("tur 5;", 1, 0);
+        fault("burn 5;", 1, 0);
+        fault("torn 5;", 1, 0);
+        fault("turm 5;", 1, 0);
         fault("turn\t5;", 1, 4);
         fault("turn\r5;", 1, 4);
         fault("turn 5;" + (char) 233, 1, 7);
@@ -233,6 +237,26 @@ public final class TextTest {
         bounds("worth home 0 period 0 out ", 0, 9999, ";");
         bounds(TWO + "start 0 at ", 0, 60, ";");
         fits("turn 000000000000000000000000000005;");
+    }
+
+    private static void fullTapes() {
+        StringBuilder signs = new StringBuilder();
+        StringBuilder blanks = new StringBuilder("turn 5;");
+        for (int i = 0; i < 1600; i++) {
+            signs.append(i % 2 == 0 ? ';' : '?');
+        }
+        for (int i = 7; i < 1600; i++) {
+            blanks.append(i % 3 == 0 ? '\n' : ' ');
+        }
+        fault(signs.toString(), 1, 0);
+        fits(blanks.toString());
+        fault(blanks.toString().substring(1) + "x", 1, 0);
+        blanks.setCharAt(1599, ';');
+        fault(blanks.toString(), 1, 1599);
+        blanks.setCharAt(6, ' ');
+        fits(blanks.toString());
+        blanks.setCharAt(1599, ' ');
+        fault(blanks.toString(), 1, 1600);
     }
 
     private static void toldPlaces() {
