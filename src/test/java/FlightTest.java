@@ -184,6 +184,12 @@ public final class FlightTest {
         LastCloud longer = Skies.under(RuleTest.CLIMB_FIRST.replace("last 6", "last 7"));
         D.due("a period more, 39 is below 50", judged(longer, 2, 0, 0, 100, 100, 0), 5);
         D.due("91 is not", judged(longer, 4, 0, 0, 100, 100, 0), 4);
+        // 15 lost: half of it is 7
+        String hill = "place ground 0;place ground 2;leg 0 1 miles 5 air 0 wind 0 hill 12;speed 45 sink 150;start 0 at ";
+        D.due("over the hill", judged(Skies.under(hill + "19;"), 0, 100), 1);
+        D.due("not over it", judged(Skies.under(hill + "18;"), 0, 100), 0);
+        D.due("to its ground", judged(Skies.under(hill.replace(" hill 12", "") + "17;"), 0, 100), 1);
+        D.due("below it", judged(Skies.under(hill.replace(" hill 12", "") + "16;"), 0, 100), 0);
         // each leg takes 2 periods and nothing else; back against the wind it can't be flown
         LastCloud level = Skies.under("place ground 0;place ground 0;leg 0 1 miles 5 air 100 wind 0;speed 60 sink 100;"
             + "speed 20 sink 100;leg 1 0 miles 1 air 100 wind 20;last 5;start 0 at 5;");

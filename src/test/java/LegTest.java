@@ -136,6 +136,11 @@ public final class LegTest {
         D.due("unsee(2)", x.unsee(2), 0);
         D.due("as told", x.chance(0), 60);
         D.due("unsee(1)", x.unsee(1), -2);
+        // 80 of 20 and 20 of 80 are alike: 50
+        LastCloud y = Skies.under("place ground 0;lift 0 chance 80 up 0 sign 20 80;");
+        y.sight(0, 2);
+        D.due("alike", y.chance(0), 50);
+        D.due("alike", y.sign(0, true), 5000);
         // no sign is told: seen it says nothing (by 0), nor unseen
         x.sight(1, 0);
         D.due("100", x.chance(1), 100);
@@ -224,6 +229,8 @@ public final class LegTest {
         D.due("loss", x.loss(0, false, 0, false), 15);
         D.due("over the hill", x.reach(0, 19, 1, false), 4);
         D.due("not over it", x.reach(0, 18, 1, false), -1);
+        x = Skies.under("place ground 0;place ground 0 home;speed 45 sink 150;leg 0 1 miles 5 air 150 wind 0;");
+        D.due("no hill", x.reach(0, 0, 1, false), 0);
         // 3 won: half of it is 1
         x = Skies.under("place ground 0;place ground 0 home;speed 60 sink 100;leg 0 1 miles 4 air 160 wind 0 hill 12;");
         D.due("won", x.loss(0, false, 0, false), -3);

@@ -27,6 +27,7 @@ public final class RuleTest {
         grounds();
         leaving();
         lastSure();
+        greatest();
         weakLifts();
         knowing();
         withoutStart();
@@ -177,6 +178,12 @@ public final class RuleTest {
         D.due("of the place it leads to", Skies.under(two + "turn 300;lift 0 chance 0 up 100;").deed(3, 0, 20, 0, false, false),
             101);
         D.due("by the slow one it loses 6", Skies.under(two + "lift 1 chance 0 up 1;").deed(3, 0, 6, 0, false, false), 100);
+        // by 100 60 and 30 are alike (21.4), by less 30 is faster
+        String alike = "place ground 0;place ground 0 home;leg 0 1 miles 5 air 0 wind 0;worth home 100 period 10 out 0;";
+        D.due("by 100, not less", Skies.under(alike + "speed 60 sink 180;speed 30 sink 40;").deed(3, 0, 30, 0, false, false),
+            100);
+        D.due("by 100, not more", Skies.under(alike + "speed 30 sink 40;speed 60 sink 180;").deed(3, 0, 30, 0, false, false),
+            100);
         // by 1 20 is faster (10 and 9.4), by 2 150 is (13.3 and 17.6)
         String far = "place ground 0;place ground 0 home;leg 0 1 miles 1 air 0 wind 0;speed 20 sink 1;speed 150 sink 15;"
             + "worth home 100 period 10 out 0;lift 1 chance 0 up ";
@@ -217,6 +224,9 @@ public final class RuleTest {
         String one = "water 1;turn 20;place ground 0;place ground 0 home;leg 0 1 miles 5 air 0 wind 0;"
             + "lift 0 chance 100 up 120;speed 60 sink 100;worth home 100 period 10 out 0;start 0 at 8 wet;";
         // 5 times 99 is 4 steps, 5 times 100 is 5
+        x = Skies.under("water 1;place ground 0;place ground 0 home;leg 0 1 miles 25 air 100 wind 0;speed 100 sink 100;"
+            + "worth home 100 period 10 out 0;start 0 at 8;");
+        D.due("101 take a period less", x.water(), 10);
         D.due("a little water", Skies.under(one).climb(0, true), 4);
         // from 5 one climb is enough without it
         state(Skies.under(one), 0, 0, 5, 0, true, true, 70, 1, 10000);
@@ -304,12 +314,37 @@ public final class RuleTest {
         D.due("none", x.last(0, 20), -1);
     }
 
+    /** The most places, heights and periods that there can be. */
+    private static void greatest() {
+        StringBuilder text = new StringBuilder("ceiling 60;last 47;water 50;speed 60 sink 100;worth home 9999 period 99 out 9999;");
+        for (int i = 0; i < 8; i++) {
+            text.append("place ground 0").append(i == 7 ? " home;" : ";").append("lift ").append(i)
+                .append(" chance 50 up 200;");
+            text.append(i > 0 ? "leg " + (i - 1) + " " + i + " miles 5 air 0 wind 0;" : "");
+        }
+        LastCloud x = Skies.under(text + "start 0 at 60 wet;");
+        for (int rule = 0; rule < 4; rule++) {
+            state(x, rule, 7, 60, 47, true, true, rule == 2 ? 9953 : 9999 - 47 * 99, -1, 10000);
+            state(x, rule, 0, 60, 47, true, true, rule == 2 ? 0 : -9999, -1, 0);
+        }
+        // wet a leg takes 1 period and 5 steps
+        D.due("seven legs", x.start(0), 9999 - 7 * 99);
+        D.due("soon", x.soon(), 7);
+        D.due("way", x.way(7), 7);
+        D.due("fly", x.fly(0, 1), 8);
+        D.due("ends", x.ends(0, true), 9999 - 7 * 99);
+        D.due("last", x.last(7, 60), 47);
+        D.due("last", x.last(1, 60), 35);
+        D.due("no way in the water's time", x.last(0, 60), -1);
+    }
+
     private static void weakLifts() {
         LastCloud x = Skies.under(CLIMB_FIRST);
         // 250 wins 12: two climbs are 29
         D.due("weak(0, 5, 0)", x.weak(0, 5, 0), 250);
         D.due("one climb is left", x.weak(0, 5, 3), 500);
         D.due("none is left", x.weak(0, 5, 4), -1);
+        D.due("without water", Skies.under(CLIMB_FIRST + "water 50;").weak(0, 5, 3), 500);
         D.due("high enough", x.weak(0, 20, 0), -1);
         D.due("no lift", x.weak(1, 5, 0), -1);
         D.due("weak(2, 5, 0)", x.weak(2, 5, 0), -2);

@@ -73,7 +73,8 @@ public final class StateTest {
         D.due("no start", x.start(0), -2000000000);
         D.due("back(0)", x.back(0), 0);
         D.due("start", x.start(0), 964);
-        Skies.tell(x, "place ground 3;place ground 4;leg 1 0 miles 9 air 9 wind 9 hill 9;speed 99 sink 99;");
+        x.end(0);
+        D.due("another sky", Skies.tell(x, "place ground 3;place ground 4;leg 1 0 miles 9 air 9 wind 9 hill 9;speed 99 sink 99;"), 4);
         x.back(0);
         D.due("its first leg", x.periods(0, false, 0, false), 2);
         D.due("its first speed", x.loss(0, false, 0, false), 10);
