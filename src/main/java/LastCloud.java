@@ -191,7 +191,7 @@ public final class LastCloud {
     // ---- without a lift ----
 
     public int reach(int from, int height, int to, boolean wet) {
-        if (!now.hasPlace(from) || !now.hasPlace(to) || !now.hasHeight(height)) {
+        if (!now.hasSpot(from, height) || !now.hasPlace(to)) {
             return NO_SUCH;
         }
         hops.glide(now, from, height, wet);
@@ -199,7 +199,7 @@ public final class LastCloud {
     }
 
     public int fields(int from, int height, boolean wet) {
-        if (!now.hasPlace(from) || !now.hasHeight(height)) {
+        if (!now.hasSpot(from, height)) {
             return NO_SUCH;
         }
         hops.glide(now, from, height, wet);
@@ -221,7 +221,7 @@ public final class LastCloud {
     }
 
     public int tour(int from, int height, boolean wet) {
-        if (!now.hasPlace(from) || !now.hasHeight(height)) {
+        if (!now.hasSpot(from, height)) {
             return NO_SUCH;
         }
         hops.glide(now, from, height, wet);
@@ -844,7 +844,8 @@ public final class LastCloud {
         }
 
         private int tenHours(int speed, int climb) {
-            return 10 * speeds[speed] * climb / (climb + sinks[speed]);
+            int whole = climb + sinks[speed];
+            return whole < 1 ? NONE : 10 * speeds[speed] * climb / whole;
         }
 
         private int flattest() {
@@ -972,13 +973,13 @@ public final class LastCloud {
             return speed >= 0 && speed < polar.count;
         }
 
-        private boolean hasHeight(int height) {
-            return height >= 0 && height <= ceiling;
+        /** One is never below the ground of the place where one is, nor above the ceiling. */
+        private boolean hasSpot(int place, int height) {
+            return hasPlace(place) && height >= places[place].ground && height <= ceiling;
         }
 
         private boolean hasState(int place, int height, int period, boolean wet) {
-            return hasPlace(place) && height >= places[place].ground && height <= ceiling
-                && period >= 0 && period <= lastPeriod && (!wet || water > 0);
+            return hasSpot(place, height) && period >= 0 && period <= lastPeriod && (!wet || water > 0);
         }
 
         private boolean hasStart() {
@@ -1570,9 +1571,6 @@ public final class LastCloud {
         /** The greatest heights to which one comes without a lift; NONE: one does not come there. */
         private void glide(Sky sky, int from, int height, boolean wet) {
             Arrays.fill(heights, NONE);
-            if (height < sky.places[from].ground) {
-                return;
-            }
             heights[from] = height;
             boolean raised = true;
             // each round but the last raises some height by a step, or from none
@@ -1696,21 +1694,39 @@ public final class LastCloud {
             winsDry[place] = steps;
         }
 
+        private static boolean isSpot(int spot) {
+            return spot >= 0 && spot < SPOTS;
+        }
+
         private int worthAt(int spot, boolean lift) {
+            if (!isSpot(spot)) {
+                return NOTHING;
+            }
             return lift ? worthThere[spot] : worthGone[spot];
         }
 
+        private int mixedAt(int spot) {
+            return isSpot(spot) ? worthMixed[spot] : NOTHING;
+        }
+
+        private int doneAt(int spot, boolean lift) {
+            if (spot < 0 || spot >= SPOTS) {
+                return 0;
+            }
+            return lift ? doneThere[spot] : doneGone[spot];
+        }
+
         private int deedAt(int spot, boolean lift) {
-            return (lift ? doneThere[spot] : doneGone[spot]) % SHARE - 1;
+            return doneAt(spot, lift) % SHARE - 1;
         }
 
         private int homeAt(int spot, boolean lift) {
-            return (lift ? doneThere[spot] : doneGone[spot]) / SHARE;
+            return doneAt(spot, lift) / SHARE;
         }
 
         private int startWorth(boolean wet) {
             fill(0, wet);
-            return worthMixed[spot(0, wet, sky.startPlace, sky.startHeight)];
+            return mixedAt(spot(0, wet, sky.startPlace, sky.startHeight));
         }
 
         /** Works out the states of a period and of all later ones; wet ones may lead to dry ones. */
@@ -1732,9 +1748,11 @@ public final class LastCloud {
                 for (int height = sky.places[place].ground; height <= sky.ceiling; height++) {
                     int hop = bestHop(period, wet, place, height);
                     int spot = spot(period, wet, place, height);
-                    settle(spot, period, place, height, hop, true);
-                    settle(spot, period, place, height, hop, false);
-                    worthMixed[spot] = mixed(chances[place], worthThere[spot], worthGone[spot]);
+                    if (isSpot(spot)) {
+                        settle(spot, period, place, height, hop, true);
+                        settle(spot, period, place, height, hop, false);
+                        worthMixed[spot] = mixed(chances[place], worthThere[spot], worthGone[spot]);
+                    }
                 }
             }
         }
@@ -1746,7 +1764,7 @@ public final class LastCloud {
             int group = Hops.group(place, wet);
             for (int hop = hops.firsts[group]; hop < hops.firsts[group + 1]; hop++) {
                 if (height >= leasts[hop] && period + hops.takes[hop] <= sky.lastPeriod) {
-                    int worth = worthMixed[behind(hop, period, wet, height)];
+                    int worth = mixedAt(behind(hop, period, wet, height));
                     if (best == NONE || worth > bestWorth) {
                         best = hop;
                         bestWorth = worth;
@@ -1770,8 +1788,8 @@ public final class LastCloud {
             int higher = sky.capped(height + (wet ? winsWet[place] : winsDry[place]));
             if (lift && higher > height && period < sky.lastPeriod) {
                 int next = spot(period + 1, wet, place, higher);
-                if (worthThere[next] > best) {
-                    best = worthThere[next];
+                if (worthAt(next, true) > best) {
+                    best = worthAt(next, true);
                     deed = CLIMB;
                     home = homeAt(next, true);
                 }
@@ -1786,8 +1804,8 @@ public final class LastCloud {
             }
             if (hop != NONE) {
                 int next = behind(hop, period, wet, height);
-                if (worthMixed[next] > best) {
-                    best = worthMixed[next];
+                if (mixedAt(next) > best) {
+                    best = mixedAt(next);
                     deed = hops.deeds[hop];
                     home = mixed(chances[hops.tos[hop]], homeAt(next, true), homeAt(next, false));
                 }
@@ -1829,17 +1847,27 @@ public final class LastCloud {
 
         private void arrive(int spot, int place) {
             if (plan.chances[place] > 0) {
-                reached[spot] |= THERE;
+                mark(spot, true);
             }
             if (plan.chances[place] < 100) {
-                reached[spot] |= GONE;
+                mark(spot, false);
             }
+        }
+
+        private void mark(int spot, boolean lift) {
+            if (Plan.isSpot(spot)) {
+                reached[spot] |= lift ? THERE : GONE;
+            }
+        }
+
+        private int marksAt(int spot) {
+            return Plan.isSpot(spot) ? reached[spot] : 0;
         }
 
         private void spreadFrom(int period, boolean wet) {
             for (int place = 0; place < sky.placeCount; place++) {
                 for (int height = sky.places[place].ground; height <= sky.ceiling; height++) {
-                    int marks = reached[Plan.spot(period, wet, place, height)];
+                    int marks = marksAt(Plan.spot(period, wet, place, height));
                     if ((marks & THERE) != 0) {
                         follow(period, wet, place, height, true);
                     }
@@ -1858,9 +1886,9 @@ public final class LastCloud {
                 greatest = Math.max(greatest, worth);
             } else if (deed == CLIMB) {
                 int higher = sky.capped(height + sky.wins(place, wet));
-                reached[Plan.spot(period + 1, wet, place, higher)] |= THERE;
+                mark(Plan.spot(period + 1, wet, place, higher), true);
             } else if (deed == LET_GO) {
-                reached[Plan.spot(period, false, place, height)] |= lift ? THERE : GONE;
+                mark(Plan.spot(period, false, place, height), lift);
             } else {
                 followLeg(deed, period, wet, place, height);
             }
@@ -1869,6 +1897,9 @@ public final class LastCloud {
         private void followLeg(int deed, int period, boolean wet, int place, int height) {
             int number = (deed - FIRST_LEG) / 10;
             int speed = (deed - FIRST_LEG) % 10;
+            if (!sky.hasLeg(number) || !sky.hasSpeed(speed)) {
+                return;
+            }
             Leg leg = sky.legs[number];
             boolean back = leg.second == place;
             int to = back ? leg.first : leg.second;
@@ -1931,12 +1962,12 @@ public final class LastCloud {
         }
 
         private void meetLift() {
-            lift = allLifts || draw(100) < chances[place];
+            lift = allLifts || drawOfHundred() < chances[place];
         }
 
-        private int draw(int n) {
+        private int drawOfHundred() {
             drawn = (1103515245L * drawn + 12345L) % 2147483648L;
-            return (int) (drawn / 65536L % n);
+            return (int) (drawn / 65536L % 100L);
         }
 
         private void follow(Plan plan, Sky under, int seed) {
@@ -2103,6 +2134,16 @@ public final class LastCloud {
             return (left * SETS + rounded) * PLACES + place;
         }
 
+        private int leastAt(int spot) {
+            return spot >= 0 && spot < leasts.length ? leasts[spot] : NEVER;
+        }
+
+        private void setLeast(int spot, int least) {
+            if (spot >= 0 && spot < leasts.length) {
+                leasts[spot] = least;
+            }
+        }
+
         /** The fewest periods till home with the lifts of these places, or NONE. */
         private int fewest(Sky under, Hops along, int lifts) {
             begin(under, along, lifts);
@@ -2110,13 +2151,13 @@ public final class LastCloud {
             if (sky.homePlace == NONE) {
                 return NONE;
             }
-            leasts[spot(0, allPoints, sky.homePlace)] = sky.places[sky.homePlace].ground;
-            int from = spot(0, pointBits[sky.startPlace], sky.startPlace);
+            setLeast(spot(0, allPoints, sky.homePlace), sky.places[sky.homePlace].ground);
+            int rounded = pointBits[sky.startPlace];
             for (int left = 0; left <= sky.lastPeriod; left++) {
                 if (left > 0) {
                     fillPeriods(left);
                 }
-                if (leasts[from + spot(left, 0, 0)] <= sky.startHeight) {
+                if (leastAt(spot(left, rounded, sky.startPlace)) <= sky.startHeight) {
                     return left;
                 }
             }
@@ -2140,12 +2181,12 @@ public final class LastCloud {
         private void fillPeriods(int left) {
             for (int rounded = 0; rounded <= allPoints; rounded++) {
                 for (int place = 0; place < sky.placeCount; place++) {
-                    int later = leasts[spot(left - 1, rounded, place)];
+                    int later = leastAt(spot(left - 1, rounded, place));
                     int least = Math.min(later, leastByHops(left, rounded, place));
                     if (later != NEVER && wins[place] > 0) {
                         least = Math.min(least, Math.max(sky.places[place].ground, later - wins[place]));
                     }
-                    leasts[spot(left, rounded, place)] = least;
+                    setLeast(spot(left, rounded, place), least);
                 }
             }
         }
@@ -2155,7 +2196,7 @@ public final class LastCloud {
             int group = Hops.group(place, wet);
             for (int hop = hops.firsts[group]; hop < hops.firsts[group + 1]; hop++) {
                 if (hops.takes[hop] <= left) {
-                    int there = leasts[behind(hop, left, rounded)];
+                    int there = leastAt(behind(hop, left, rounded));
                     int needed = Math.max(hops.leasts[hop], there + hops.losses[hop]);
                     if (there != NEVER && needed <= sky.ceiling) {
                         least = Math.min(least, needed);
@@ -2180,7 +2221,7 @@ public final class LastCloud {
             addToWay(place);
             for (int i = 0; i < PERIODS && left > 0; i++) {
                 int higher = sky.capped(height + wins[place]);
-                if (higher > height && leasts[spot(left - 1, rounded, place)] <= higher) {
+                if (higher > height && leastAt(spot(left - 1, rounded, place)) <= higher) {
                     height = higher;
                     left--;
                 } else {
@@ -2201,7 +2242,7 @@ public final class LastCloud {
             int group = Hops.group(place, wet);
             for (int hop = hops.firsts[group]; hop < hops.firsts[group + 1]; hop++) {
                 if (height >= hops.leasts[hop] && hops.takes[hop] <= left
-                    && leasts[behind(hop, left, rounded)] <= sky.capped(height - hops.losses[hop])) {
+                    && leastAt(behind(hop, left, rounded)) <= sky.capped(height - hops.losses[hop])) {
                     return hop;
                 }
             }

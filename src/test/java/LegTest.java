@@ -196,10 +196,10 @@ public final class LegTest {
         D.due("below it", x.reach(0, 19, 1, false), -1);
         D.due("back", x.reach(1, 24, 0, false), 4);
         D.due("where one is", x.reach(1, 24, 1, false), 24);
-        D.due("below the ground one is not", x.reach(0, 1, 0, false), -1);
+        D.due("below the ground one is not", x.reach(0, 1, 0, false), -2);
         D.due("above the ceiling", x.reach(0, 36, 1, false), -2);
         D.due("below 0", x.reach(0, -1, 1, false), -2);
-        D.due("at 0, below the ground", x.reach(0, 0, 0, false), -1);
+        D.due("at 0, below the ground", x.reach(0, 0, 0, false), -2);
         D.due("at 0", Skies.under("place ground 0;").reach(0, 0, 0, false), 0);
         D.due("at 0", Skies.under("place ground 0 home;").fields(0, 0, true), 1);
         D.due("no place", x.reach(3, 20, 1, false), -2);
@@ -210,7 +210,7 @@ public final class LegTest {
         D.due("fields(0, 19) with water", x.fields(0, 19, true), 2);
         D.due("fields(0, 26)", x.fields(0, 26, false), 6);
         D.due("fields(1, 5)", x.fields(1, 5, false), 2);
-        D.due("below the ground", x.fields(1, 4, false), 0);
+        D.due("below the ground", x.fields(1, 4, false), -2);
         D.due("no place", x.fields(3, 20, false), -2);
         D.due("no height", x.fields(0, 36, false), -2);
         D.due("no height", x.fields(0, -1, true), -2);
@@ -250,7 +250,7 @@ public final class LegTest {
         D.due("tour(0, 19)", x.tour(0, 19, false), 0);
         D.due("tour(0, 19) with water", x.tour(0, 19, true), 3);
         D.due("tour(0, 35)", x.tour(0, 35, false), 7);
-        D.due("below the ground", x.tour(0, 1, false), 0);
+        D.due("below the ground", x.tour(0, 1, false), -2);
         D.due("no place", x.tour(3, 20, false), -2);
         D.due("no height", x.tour(0, 36, false), -2);
         D.due("no height", x.tour(0, -1, false), -2);

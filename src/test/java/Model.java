@@ -151,9 +151,6 @@ final class Model {
     int[] glide(int from, int height, boolean wet) {
         int[] best = new int[places.size()];
         java.util.Arrays.fill(best, NONE);
-        if (height < places.get(from)[0]) {
-            return best;
-        }
         boolean[][] seen = new boolean[places.size()][ceiling + 1];
         ArrayDeque<int[]> open = new ArrayDeque<>();
         open.add(new int[] {from, height});

@@ -106,10 +106,11 @@ public final class ModelTest {
             int p = place();
             int to = place();
             int h = random.nextInt(m.ceiling + 1);
-            due("reach", x.reach(p, h, to, wet), m.glide(p, h, wet)[to]);
-            due("fields", x.fields(p, h, wet), m.fields(p, h, wet));
+            boolean below = h < m.places.get(p)[0];
+            due("reach", x.reach(p, h, to, wet), below ? -2 : m.glide(p, h, wet)[to]);
+            due("fields", x.fields(p, h, wet), below ? -2 : m.fields(p, h, wet));
             due("edge", x.edge(p, wet), m.edge(p, wet));
-            due("tour", x.tour(p, h, wet), m.tour(p, h, wet));
+            due("tour", x.tour(p, h, wet), below ? -2 : m.tour(p, h, wet));
             due("climb", x.climb(p, wet), m.wins(p, wet));
             due("sign", x.sign(p, wet), m.bySign(m.toldChance(p), p, wet, 10000));
         }
