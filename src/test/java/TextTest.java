@@ -136,17 +136,11 @@ public final class TextTest {
     }
 
     private static void fault(String text, int fault, int place) {
-        LastCloud x = new LastCloud();
-        D.due("sky() of '" + text + "'", Skies.tell(x, text), -4);
-        D.due("fault of '" + text + "'", x.fault(0), fault);
-        D.due("its place of '" + text + "'", x.fault(1), place);
+        Skies.fault(D, text, fault, place);
     }
 
     private static void fits(String text) {
-        LastCloud x = new LastCloud();
-        int lines = Skies.tell(x, text);
-        D.due("fault of '" + text + "' at " + x.fault(1), x.fault(0), 0);
-        D.due("lines of '" + text + "'", lines >= 0 ? 1 : 0, 1);
+        Skies.fits(D, text);
     }
 
     private static void noTokens() {
@@ -203,14 +197,7 @@ public final class TextTest {
     }
 
     private static void bounds(String ahead, int least, int greatest, String behind) {
-        fits(ahead + least + behind);
-        fits(ahead + greatest + behind);
-        if (least > 0) {
-            fault(ahead + (least - 1) + behind, 2, ahead.length());
-        }
-        fault(ahead + (greatest + 1) + behind, 2, ahead.length());
-        fault(ahead + "4294967297" + behind, 2, ahead.length());
-        fault(ahead + "18446744073709551617" + behind, 2, ahead.length());
+        Skies.bounds(D, ahead, least, greatest, behind);
     }
 
     private static void numbers() {
