@@ -67,6 +67,10 @@ public final class LanguageTest {
         for (Class<?> inner : c.getDeclaredClasses()) {
             D.due(inner + " is static", Modifier.isStatic(inner.getModifiers()) ? 1 : 0, 1);
             D.due(inner + " is not open", Modifier.isPublic(inner.getModifiers()) ? 1 : 0, 0);
+            for (Method m : inner.getDeclaredMethods()) {
+                D.due(m + " is private", Modifier.isPrivate(m.getModifiers()) ? 1 : 0, 1);
+                D.due(m + " has its own name", open.contains(m.getName()) ? 1 : 0, 0);
+            }
             fields = Math.max(fields, membersOf(inner));
         }
         D.due("fields of a class", Math.max(fields, membersOf(c)) <= 20 ? 1 : 0, 1);
