@@ -326,16 +326,14 @@ public final class EdgeRuleTest {
         for (int up = 0; up < 12; up++) {
             state(Skies.under(sky.replace("sink 15", "sink 13") + up + ";"), 3, 0, 20, 0, false, false, 100, 101, 10000);
         }
-        // by each LEG likewise: the last of ten by the last of six SPEEDS
-        StringBuilder most = new StringBuilder("place ground 0;place ground 0 home;");
+        // by each LEG likewise, to the last of ten by the last of six SPEEDS: by 25, less the more LEGS there are
+        String most = "place ground 0;place ground 0 home;speed 20 sink 1;speed 21 sink 1;speed 22 sink 1;speed 23 sink 1;"
+            + "speed 24 sink 1;speed 25 sink 1;worth home 100 period 1 out 0;";
+        int[] periods = {29, 26, 24, 21, 18, 15, 12, 9, 6, 3};
         for (int i = 0; i < 10; i++) {
-            most.append("leg 0 1 miles ").append(60 - 6 * i).append(" air 0 wind 0;");
+            most += "leg 0 1 miles " + (60 - 6 * i) + " air 0 wind 0;";
+            state(Skies.under(most), 3, 0, 20, 0, false, false, 100 - periods[i], 105 + 10 * i, 10000);
         }
-        for (int i = 0; i < 6; i++) {
-            most.append("speed ").append(20 + i).append(" sink 1;");
-        }
-        // 72 by 25 and 1 is 3
-        state(Skies.under(most + "worth home 100 period 1 out 0;"), 3, 0, 20, 0, false, false, 97, 195, 10000);
     }
 
     /** RULE 3: "100 without a LIFT; of the PLACE to which it leads": 21 by 120 and 35 by 200 are alike. */
@@ -617,6 +615,9 @@ public final class EdgeRuleTest {
         // seen by 80 of 90 and 20 of 10: 7,400: 97, that is 964; not: 800 by 2,600 is 30, that is 160: 754.9 less 760
         x = Skies.under(RuleTest.BY_A_CLOUD + "80 up 400 sign 90 10;");
         D.due("it tells much", x.hawk(1), -6);
+        // seen by 30 of 100 and 70 of 60: 7,200: 41, that is 292; not: 0, that is the field's 50: 224.2 less 160
+        x = Skies.under(RuleTest.BY_A_CLOUD + "30 up 400 sign 100 60;");
+        D.due("it tells more", x.hawk(1), 64);
     }
 
     /** share, known: "NOTHING: there are none such"; hawk: "NOTHING likewise." */
