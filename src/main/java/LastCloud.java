@@ -1835,8 +1835,9 @@ public final class LastCloud {
             plan = by;
             sky = by.sky;
             Arrays.fill(reached, (byte) 0);
-            least = Integer.MAX_VALUE;
-            greatest = Integer.MIN_VALUE;
+            // no worth is so great or so small, so the first landing takes the place of both
+            least = -NOTHING;
+            greatest = NOTHING;
             arrive(Plan.spot(0, sky.startsWet(), sky.startPlace, sky.startHeight), sky.startPlace);
             for (int period = 0; period <= sky.lastPeriod; period++) {
                 // letting the water go takes no time, so wet states come first

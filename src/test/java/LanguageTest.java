@@ -26,8 +26,45 @@ public final class LanguageTest {
         none(code, "\"\\s*\\+|\\+\\s*\"", "10");
         none(code, "import (?!java\\.util\\.Arrays;)", "4");
         none(code, "\\bnew \\w+\\([^)]*\\) *\\{", "2");
+        library(code);
+        lengths(code);
         face();
+        parameters();
         D.finish();
+    }
+
+    /** Rule 4: no other part of the library is named. */
+    private static void library(String code) {
+        Set<String> open = Set.of("Integer.bitCount", "Math.max", "Math.min", "System.arraycopy", "Arrays.fill");
+        Matcher m = Pattern.compile("\\b(Integer|Long|Math|Arrays|System|String|Boolean|Character)\\.\\w+").matcher(code);
+        while (m.find()) {
+            D.due("rule 4: " + m.group(), open.contains(m.group()) ? 1 : 0, 1);
+        }
+    }
+
+    /** Rule 11: methods of some sixty lines at most. */
+    private static void lengths(String code) {
+        Matcher m = Pattern.compile("(?m)^( +)(?:public|private) [^=;{}]*\\([^=;{}]*\\) \\{$").matcher(code);
+        int methods = 0;
+        while (m.find()) {
+            methods++;
+            int end = code.indexOf("\n" + m.group(1) + "}\n", m.start());
+            long lines = code.substring(m.start(), Math.max(m.start(), end)).lines().count() + 1;
+            D.due("rule 11: " + lines + " lines of " + m.group().trim(), end > 0 && lines <= 60 ? 1 : 0, 1);
+        }
+        D.due("methods were found: " + methods, methods > 150 ? 1 : 0, 1);
+    }
+
+    /** Rule 11: seven parameters at most. */
+    private static void parameters() {
+        for (Class<?> inner : LastCloud.class.getDeclaredClasses()) {
+            for (Method m : inner.getDeclaredMethods()) {
+                D.due("rule 11: parameters of " + m, m.getParameterCount() <= 7 ? 1 : 0, 1);
+            }
+        }
+        for (Method m : LastCloud.class.getDeclaredMethods()) {
+            D.due("rule 11: parameters of " + m, m.getParameterCount() <= 7 ? 1 : 0, 1);
+        }
     }
 
     private static void none(String code, String pattern, String rule) {
