@@ -195,7 +195,7 @@ public final class LastCloud {
             return NO_SUCH;
         }
         hops.glide(now, from, height, wet);
-        return hops.heights[to];
+        return hops.heightAt(to);
     }
 
     public int fields(int from, int height, boolean wet) {
@@ -205,7 +205,7 @@ public final class LastCloud {
         hops.glide(now, from, height, wet);
         int bits = 0;
         for (int place = 0; place < now.placeCount; place++) {
-            if (hops.heights[place] != NONE && now.isToLandAt(place)) {
+            if (hops.heightAt(place) != NONE && now.isToLandAt(place)) {
                 bits |= 1 << place;
             }
         }
@@ -216,7 +216,7 @@ public final class LastCloud {
         if (!now.hasPlace(place)) {
             return NO_SUCH;
         }
-        int least = hops.edges[Hops.group(place, wet)];
+        int least = hops.edgeAt(place, wet);
         return least == NEVER ? NONE : least;
     }
 
@@ -227,8 +227,8 @@ public final class LastCloud {
         hops.glide(now, from, height, wet);
         int bits = 0;
         for (int place = 0; place < now.placeCount; place++) {
-            int best = hops.heights[place];
-            if (best != NONE && best >= hops.edges[Hops.group(place, wet)]) {
+            int best = hops.heightAt(place);
+            if (best != NONE && best >= hops.edgeAt(place, wet)) {
                 bits |= 1 << place;
             }
         }
@@ -427,7 +427,7 @@ public final class LastCloud {
 
     private int startWorthWith(int place, int chance) {
         Plan plan = planOf(BEST);
-        if (chance != plan.chances[place]) {
+        if (chance != plan.chanceAt(place)) {
             plan = trialPlan();
             plan.setChance(place, chance);
         }
@@ -1530,6 +1530,15 @@ public final class LastCloud {
             count++;
         }
 
+        private int edgeAt(int place, boolean wet) {
+            int group = group(place, wet);
+            return group >= 0 && group < GROUPS ? edges[group] : NEVER;
+        }
+
+        private int heightAt(int place) {
+            return place >= 0 && place < PLACES ? heights[place] : NONE;
+        }
+
         private int speedOf(int hop) {
             return (deeds[hop] - FIRST_LEG) % 10;
         }
@@ -1543,21 +1552,20 @@ public final class LastCloud {
             for (int round = 0; round <= PLACES * (HEIGHTS + 1) && lowered; round++) {
                 lowered = false;
                 for (int place = 0; place < sky.placeCount; place++) {
-                    int group = group(place, wet);
-                    int least = leastByHop(sky, group);
-                    if (least < edges[group]) {
-                        edges[group] = least;
+                    int least = leastByHop(sky, place, wet);
+                    if (least < edgeAt(place, wet)) {
+                        edges[group(place, wet)] = least;
                         lowered = true;
                     }
                 }
             }
         }
 
-        private int leastByHop(Sky sky, int group) {
+        private int leastByHop(Sky sky, int place, boolean wet) {
             int least = NEVER;
-            int water = group - group % PLACES;
+            int group = group(place, wet);
             for (int hop = firsts[group]; hop < firsts[group + 1]; hop++) {
-                int beyond = edges[water + tos[hop]];
+                int beyond = edgeAt(tos[hop], wet);
                 if (beyond != NEVER) {
                     int needed = Math.max(leasts[hop], beyond + losses[hop]);
                     if (needed <= sky.ceiling) {
@@ -1588,12 +1596,19 @@ public final class LastCloud {
             boolean raised = false;
             for (int hop = firsts[group]; hop < firsts[group + 1]; hop++) {
                 int there = sky.capped(heights[place] - losses[hop]);
-                if (heights[place] >= leasts[hop] && there > heights[tos[hop]]) {
-                    heights[tos[hop]] = there;
+                if (heights[place] >= leasts[hop] && raiseTo(tos[hop], there)) {
                     raised = true;
                 }
             }
             return raised;
+        }
+
+        private boolean raiseTo(int place, int height) {
+            if (place < 0 || place >= PLACES || height <= heights[place]) {
+                return false;
+            }
+            heights[place] = height;
+            return true;
         }
 
         /** The most places on a path along hops without loss, each place once. */
@@ -1620,8 +1635,9 @@ public final class LastCloud {
         private void growStreets(int set, int place) {
             for (int hop = firsts[place]; hop < firsts[place + 1]; hop++) {
                 int bit = 1 << tos[hop];
-                if (losses[hop] <= 0 && (set & bit) == 0) {
-                    endings[set | bit] |= bit;
+                int grown = set | bit;
+                if (losses[hop] <= 0 && grown > set && grown < endings.length) {
+                    endings[grown] |= bit;
                 }
             }
         }
@@ -1677,13 +1693,17 @@ public final class LastCloud {
         private int leastByRule(int hop, boolean wet) {
             int to = hops.tos[hop];
             if (rule == SAFE) {
-                int edge = hops.edges[Hops.group(to, wet)];
+                int edge = hops.edgeAt(to, wet);
                 return edge == NEVER ? NEVER : Math.max(hops.leasts[hop], edge + hops.losses[hop]);
             }
             if (rule == FAST && hops.speedOf(hop) != sky.fastSpeedTo(to)) {
                 return NEVER;
             }
             return hops.leasts[hop];
+        }
+
+        private int chanceAt(int place) {
+            return place >= 0 && place < PLACES ? chances[place] : 0;
         }
 
         private void setChance(int place, int chance) {
@@ -1807,7 +1827,7 @@ public final class LastCloud {
                 if (mixedAt(next) > best) {
                     best = mixedAt(next);
                     deed = hops.deeds[hop];
-                    home = mixed(chances[hops.tos[hop]], homeAt(next, true), homeAt(next, false));
+                    home = mixed(chanceAt(hops.tos[hop]), homeAt(next, true), homeAt(next, false));
                 }
             }
             if (lift) {
@@ -1847,10 +1867,10 @@ public final class LastCloud {
         }
 
         private void arrive(int spot, int place) {
-            if (plan.chances[place] > 0) {
+            if (plan.chanceAt(place) > 0) {
                 mark(spot, true);
             }
-            if (plan.chances[place] < 100) {
+            if (plan.chanceAt(place) < 100) {
                 mark(spot, false);
             }
         }
@@ -2051,7 +2071,7 @@ public final class LastCloud {
             int to = back ? leg.first : leg.second;
             int loss = sky.loses(number, back, speed, wet);
             int lower = sky.capped(height - loss);
-            if (height - loss / 2 < leg.hill || lower < sky.places[to].ground) {
+            if (height - loss / 2 < leg.hill || !sky.hasSpot(to, lower)) {
                 return false;
             }
             place = to;
@@ -2139,6 +2159,14 @@ public final class LastCloud {
             return spot >= 0 && spot < leasts.length ? leasts[spot] : NEVER;
         }
 
+        private int pointBitAt(int place) {
+            return place >= 0 && place < PLACES ? pointBits[place] : 0;
+        }
+
+        private int winsAt(int place) {
+            return place >= 0 && place < PLACES ? wins[place] : 0;
+        }
+
         private void setLeast(int spot, int least) {
             if (spot >= 0 && spot < leasts.length) {
                 leasts[spot] = least;
@@ -2153,7 +2181,7 @@ public final class LastCloud {
                 return NONE;
             }
             setLeast(spot(0, allPoints, sky.homePlace), sky.places[sky.homePlace].ground);
-            int rounded = pointBits[sky.startPlace];
+            int rounded = pointBitAt(sky.startPlace);
             for (int left = 0; left <= sky.lastPeriod; left++) {
                 if (left > 0) {
                     fillPeriods(left);
@@ -2209,7 +2237,7 @@ public final class LastCloud {
 
         private int behind(int hop, int left, int rounded) {
             int to = hops.tos[hop];
-            return spot(left - hops.takes[hop], rounded | pointBits[to], to);
+            return spot(left - hops.takes[hop], rounded | pointBitAt(to), to);
         }
 
         /** Goes the first of the ways that take the fewest periods, which fewest() has just answered. */
@@ -2217,11 +2245,11 @@ public final class LastCloud {
             int left = fewest;
             int place = sky.startPlace;
             int height = sky.startHeight;
-            int rounded = pointBits[place];
+            int rounded = pointBitAt(place);
             wayCount = 0;
             addToWay(place);
             for (int i = 0; i < PERIODS && left > 0; i++) {
-                int higher = sky.capped(height + wins[place]);
+                int higher = sky.capped(height + winsAt(place));
                 if (higher > height && leastAt(spot(left - 1, rounded, place)) <= higher) {
                     height = higher;
                     left--;
@@ -2232,7 +2260,7 @@ public final class LastCloud {
                     }
                     place = hops.tos[hop];
                     height = sky.capped(height - hops.losses[hop]);
-                    rounded |= pointBits[place];
+                    rounded |= pointBitAt(place);
                     left -= hops.takes[hop];
                     addToWay(place);
                 }
